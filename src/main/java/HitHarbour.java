@@ -31,13 +31,13 @@ public final class HitHarbour {
     /** A grade that no score can be. */
     private static final long NO_MATCH = 1L << 32;
 
-    private static final int TERM = 1;
-    private static final int PHRASE = 2;
-    private static final int PRICED = 3;
-    private static final int COLOURED = 4;
-    private static final int BOOSTED = 5;
-    private static final int PARENTS = 6;
-    private static final int SET = 7;
+    /** A term or a phrase: one to three words. */
+    private static final int TEXT = 1;
+    private static final int PRICED = 2;
+    private static final int COLOURED = 3;
+    private static final int BOOSTED = 4;
+    private static final int PARENTS = 5;
+    private static final int SET = 6;
 
     private static final char MUST = 'm';
     private static final char SHOULD = 's';
@@ -235,7 +235,7 @@ public final class HitHarbour {
         needField(field);
         needWord(word);
         Query made = index.queries[roomForQuery()];
-        made.kind = TERM;
+        made.kind = TEXT;
         made.field = field;
         made.words[0] = word;
         made.wordCount = 1;
@@ -254,7 +254,7 @@ public final class HitHarbour {
             throw new IllegalArgumentException("the slop is out of range");
         }
         Query made = index.queries[roomForQuery()];
-        made.kind = PHRASE;
+        made.kind = TEXT;
         made.field = field;
         made.words[0] = a;
         made.words[1] = b;
@@ -738,13 +738,11 @@ public final class HitHarbour {
             }
         }
 
-        /** Has one document alone. */
+        /** Has one document alone, in no segment: it is matched, but not scored by local facts. */
         void showOnly(int row, int price) {
             if (isRow(row)) {
                 ledger.alive = 1 << row;
                 ledger.prices[row] = price;
-                segments[0] = 1 << row;
-                segmentCount = 1;
             }
         }
 
@@ -926,10 +924,6 @@ public final class HitHarbour {
             }
         }
 
-        boolean isText() {
-            return kind == TERM || kind == PHRASE;
-        }
-
         boolean isInRange(int price) {
             return price >= least && price <= most;
         }
@@ -947,11 +941,8 @@ public final class HitHarbour {
             return 1;
         }
 
-        /** At how many positions the term is, or the matches of the phrase begin. */
+        /** At how many positions matches of the words begin. */
         int oftenIn(Document document) {
-            if (kind == TERM) {
-                return Integer.bitCount(document.positionsOf(field, words[0]));
-            }
             int often = 0;
             for (int position = 0; position < DRAFT_WORDS; position++) {
                 // The positions that a match has behind its least one.
@@ -1005,7 +996,7 @@ public final class HitHarbour {
                     together |= there;
                 }
             }
-            // Two words that have a position each need only two positions together.
+            // Two words that have a position each need only have two positions together.
             return Integer.bitCount(together) >= wordCount - 1;
         }
     }
@@ -1015,7 +1006,7 @@ public final class HitHarbour {
         final Document[] documents = new Document[ROWS];
         final Query[] queries = new Query[QUERIES];
         int queryCount = 0;
-        /** How often a term or a phrase is in a document, and which documents have it at all. */
+        /** How often a text is in a document, and which documents have it at all. */
         private final int[][] often = new int[QUERIES][ROWS];
         private final int[] carriers = new int[QUERIES];
         /** Which queries were matched all at once at this moment, their documents and the scores. */
@@ -1066,7 +1057,7 @@ public final class HitHarbour {
         }
 
         private void countText(int query, int row) {
-            if (query < 0 || query >= QUERIES || !isRow(row) || !queries[query].isText()) {
+            if (query < 0 || query >= QUERIES || !isRow(row) || queries[query].kind != TEXT) {
                 return;
             }
             int times = queries[query].oftenIn(documents[row]);
@@ -1164,8 +1155,7 @@ public final class HitHarbour {
                 scores[number][row] = 0;
             }
             switch (query.kind) {
-                case TERM:
-                case PHRASE:
+                case TEXT:
                     matchText(number);
                     break;
                 case PRICED:
@@ -1289,8 +1279,7 @@ public final class HitHarbour {
             }
             Query query = queries[number];
             switch (query.kind) {
-                case TERM:
-                case PHRASE:
+                case TEXT:
                     return often[number][row] > 0 ? textScore(number, row) : NO_MATCH;
                 case PRICED:
                     return query.isInRange(moment.ledger.prices[row]) ? 0 : NO_MATCH;

@@ -17,6 +17,7 @@ public final class PromiseTest {
         refreshPromise();
         mergePromise();
         mergeOrderPromise();
+        mergeMany();
         commitPromise();
         syncPromise();
         crashPromise();
@@ -409,6 +410,43 @@ public final class PromiseTest {
         due.same("9: behind the others", segments(y), "0 1 2 3 4 5|7 8 16|17 18 19");
     }
 
+    private static void mergeMany() {
+        HitHarbour x = new HitHarbour();
+        for (int document = 0; document < 6; document++) {
+            put(x, 0, 0);
+            if (document != 0 && document != 2) {
+                x.refresh();
+            }
+        }
+        due.same("9: tiers 2 2 1 1", segments(x), "0 1|2 3|4|5");
+        x.delete(0);
+        x.delete(3);
+        due.same("9: of four of a tier the first three", x.refresh(), 2);
+        due.same("9: the fourth stays", segments(x), "1 2 4|5");
+        HitHarbour y = new HitHarbour();
+        for (int document = 0; document < 24; document++) {
+            put(y, 0, 0);
+            if (document == 7 || document == 15) {
+                y.refresh();
+            }
+        }
+        due.same("9: two of eight", y.segments(), 2);
+        due.same("9: three of eight", y.refresh(), 1);
+        due.same("9: all 24", y.segmentAt(0, 23), 23);
+        HitHarbour z = new HitHarbour();
+        int[] ends = {6, 14};
+        for (int document = 0; document < 23; document++) {
+            put(z, 0, 0);
+            if (document == ends[0] || document == ends[1]) {
+                z.refresh();
+            }
+        }
+        due.same("9: seven and two of eight", z.refresh(), 3);
+        z.delete(7);
+        z.delete(15);
+        due.same("9: three of seven", z.refresh(), 1);
+    }
+
     private static void commitPromise() {
         HitHarbour x = new HitHarbour();
         put(x, 0, 3, 1);
@@ -456,6 +494,12 @@ public final class PromiseTest {
         due.element("11: and deleted", () -> x.delete(0));
         x.setPrice(1, 2);
         due.same("11: one behind it", x.sync(), 1);
+        x.setPrice(1, 3);
+        x.commit();
+        due.same("11: all is committed", x.crash(), 0);
+        x.setPrice(1, 4);
+        due.same("11: one behind the latest", x.crash(), 1);
+        due.same("11: and the price is that", x.setPrice(1, 5), 3);
     }
 
     private static void crashPromise() {
@@ -493,6 +537,8 @@ public final class PromiseTest {
         int u = reader(x);
         due.same("12: with what they are now", x.having(u, 2), 0);
         due.same("12: and nothing else", x.having(u, 3), 1);
+        x.search(u, 3, 24, false);
+        due.same("12: their length is anew", hits(x), "3:500");
     }
 
     private static void crashStays() {
@@ -968,6 +1014,15 @@ public final class PromiseTest {
         due.same("26: parts of several", hits(x), "3:1200 1:1000 2:500");
         x.search(r, twice, 24, false);
         due.same("26: nested", hits(x), "1:1000 2:500");
+        HitHarbour y = new HitHarbour();
+        put(y, 0, 0, 1, 1);
+        y.term(0, 1);
+        setOf(y, 0, "m0s0");
+        int s = reader(y);
+        for (int time = 0; time < 3; time++) {
+            y.search(s, 1, 24, false);
+            due.same("26: the same each time", hits(y), "0:800");
+        }
     }
 
     private static void searchPromise(boolean isAnew) {
@@ -1203,6 +1258,13 @@ public final class PromiseTest {
         x.keep(0);
         due.same("36: stored later", x.met(0, 0), 2 + 32 + 64);
         due.same("36: reader stays", x.seen(0), 2);
+        HitHarbour y = new HitHarbour();
+        y.term(0, 0);
+        y.keep(0);
+        y.draft(0, 0);
+        due.same("36: word 0", y.met(0, 0), 1);
+        y.add(0, 0, -1);
+        due.same("36: no more", y.met(0, 0), 0);
     }
 
     private static void operationsPromise() {
