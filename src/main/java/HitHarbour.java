@@ -694,6 +694,8 @@ public final class HitHarbour {
             }
         }
 
+        // These two test for themselves, as calls that end here are as deep as LANGUAGE.md allows.
+
         int positionsOf(int field, int word) {
             boolean isThere = field >= 0 && field < FIELDS && word >= 0 && word < WORDS;
             return isThere ? positions[field][word] : 0;
