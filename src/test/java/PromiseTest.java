@@ -1,7 +1,5 @@
 /** For each promise: ordinary inputs, the edges that the document names, and wrong inputs. */
-public final class PromiseTest {
-    private static final Due due = new Due();
-
+public final class PromiseTest extends Calls {
     private PromiseTest() {
     }
 
@@ -53,52 +51,6 @@ public final class PromiseTest {
         soundPromise();
         queryRoom();
         due.end();
-    }
-
-    /** Adds a document with words in field 0 and no parent. */
-    private static int put(HitHarbour x, int colour, int price, int... words) {
-        for (int word : words) {
-            x.draft(0, word);
-        }
-        return x.add(colour, price, -1);
-    }
-
-    private static int child(HitHarbour x, int parent, int... words) {
-        for (int word : words) {
-            x.draft(0, word);
-        }
-        return x.add(0, 0, parent);
-    }
-
-    /** A reader of all that was told. */
-    private static int reader(HitHarbour x) {
-        x.refresh();
-        return x.open();
-    }
-
-    private static String hits(HitHarbour x) {
-        StringBuilder told = new StringBuilder();
-        for (int hit = 0; hit < x.hits(); hit++) {
-            told.append(x.hitAt(hit)).append(':').append(x.scoreAt(hit)).append(' ');
-        }
-        return told.toString().trim();
-    }
-
-    private static String segments(HitHarbour x) {
-        StringBuilder told = new StringBuilder();
-        for (int segment = 0; segment < x.segments(); segment++) {
-            told.append(segment == 0 ? "" : "|");
-            for (int place = 0; ; place++) {
-                final int s = segment;
-                final int p = place;
-                Object document = Due.answerOf(() -> x.segmentAt(s, p));
-                if (document instanceof String) {
-                    break;
-                }
-                told.append(place == 0 ? "" : " ").append(document);
-            }
-        }
-        return told.toString();
     }
 
     private static void newObject() {
@@ -963,13 +915,6 @@ public final class PromiseTest {
         x.priced(0, 35);
         x.coloured(3);
         return x;
-    }
-
-    private static int setOf(HitHarbour x, int least, String clauses) {
-        for (int sign = 0; sign < clauses.length(); sign += 2) {
-            x.clause(clauses.charAt(sign), clauses.charAt(sign + 1) - '0');
-        }
-        return x.set(least);
     }
 
     private static void setMatching() {

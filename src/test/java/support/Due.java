@@ -5,8 +5,11 @@ final class Due {
         Object answer();
     }
 
+    private static final int MOST_PRINTED = 40;
+
     private int checked = 0;
     private int wrong = 0;
+    private String heading = "";
 
     /** The answer of a call, or "throws." and the plain name of its exception. */
     static Object answerOf(Call call) {
@@ -17,12 +20,17 @@ final class Due {
         }
     }
 
+    /** Tells what the answers that follow are about. */
+    void head(String newHeading) {
+        heading = newHeading;
+    }
+
     void same(String what, Object got, Object want) {
         checked++;
         if (!want.equals(got)) {
             wrong++;
-            if (wrong <= 40) {
-                System.out.println(what + " answered " + got + ", due is " + want);
+            if (wrong <= MOST_PRINTED) {
+                System.out.println(heading + what + " answered " + got + ", due is " + want);
             }
         }
     }
@@ -53,6 +61,10 @@ final class Due {
 
     void arithmetic(String what, Call call) {
         call(what, "throws.ArithmeticException", call);
+    }
+
+    int checked() {
+        return checked;
     }
 
     boolean isWrong() {
